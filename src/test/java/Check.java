@@ -60,7 +60,10 @@ final class Check {
     }
 
     static String text(KiloFractions x, int a) {
-        return (x.sign(a) < 0 ? "-" : "") + digits(x, a, 0) + "/" + digits(x, a, 1);
+        int sign = x.sign(a);
+        String upper = digits(x, a, 0);
+        String odd = (sign == 0) == upper.equals("0") ? "" : "with sign " + sign + " ";
+        return odd + (sign < 0 ? "-" : "") + upper + "/" + digits(x, a, 1);
     }
 
     private static String digits(KiloFractions x, int a, int part) {
