@@ -1,20 +1,36 @@
 import java.math.BigInteger;
 
-/** Counts and prints the answers of a test that are not as due. */
+/** Counts and prints the answers of a test that are not as due, with the sentence that they break. */
 final class Check {
     /** A call whose answer is looked at. */
     interface Call {
         Object answer();
     }
 
+    /** Numbers that no value, span, weight, rule, end, part or digit has. */
+    static final int[] NEVER = {-1, 100, Integer.MIN_VALUE, Integer.MAX_VALUE, -100, 1 << 30};
+
+    /** 10^24: two numbers about it have a product of 48 or of 49 digits. */
+    private static final BigInteger TEN_24 = BigInteger.TEN.pow(24);
+
+    private static final int MOST_VALUES = 100;
+
     private int wrong = 0;
+    private int tests = 0;
+    private String sentence = "";
+
+    /** A test of its own begins, of this sentence of the document; ' .. ' stands for words left out. */
+    void sentence(String where, String words) {
+        tests++;
+        sentence = where + ", \"" + words + "\": ";
+    }
 
     /** The call answers what is due. */
     void answers(String what, Object due, Call call) {
         Object got = answerOf(call);
         if (!got.equals(due)) {
             wrong++;
-            System.out.println(what + " answered " + got + ", due is " + due);
+            System.out.println(sentence + what + " answered " + got + ", due is " + due);
         }
     }
 
@@ -44,8 +60,24 @@ final class Check {
         answers("value " + a, due, () -> text(x, a));
     }
 
+    /** The call makes value 'number', which is the fraction that is due. */
+    void makes(String what, int number, String due, KiloFractions x, Call call) {
+        answers(what, number, call);
+        is(due, x, number);
+    }
+
+    /** There are 'count' values, no more. */
+    void hasValues(int count, KiloFractions x) {
+        if (count > 0) {
+            answers("whether value " + (count - 1) + " is there", false,
+                    () -> answerOf(() -> x.sign(count - 1)) instanceof String);
+        }
+        noIndex("sign(" + count + ")", () -> x.sign(count));
+    }
+
     void end() {
-        System.out.println(wrong == 0 ? "all answers are as due" : wrong + " answers are not as due");
+        String told = tests == 0 ? "" : tests + " tests, ";
+        System.out.println(told + (wrong == 0 ? "all answers are as due" : wrong + " answers are not as due"));
         if (wrong != 0) {
             System.exit(1);
         }
@@ -55,8 +87,13 @@ final class Check {
         try {
             return call.answer();
         } catch (RuntimeException e) {
-            return "throws." + e.getClass().getSimpleName();
+            return "throws." + e.getClass().getSimpleName() + (isOfTheMachine(e) ? " of the machine" : "");
         }
+    }
+
+    /** The machine's own refusal of a division bears the class that a 'throw' of the program has. */
+    private static boolean isOfTheMachine(RuntimeException e) {
+        return "/ by zero".equals(e.getMessage());
     }
 
     static String text(KiloFractions x, int a) {
@@ -91,8 +128,28 @@ final class Check {
         return x.add(raised, x.value(n.remainder(base).longValue(), 1));
     }
 
+    /** Makes 1 over the whole number 'text'. */
+    static int under(KiloFractions x, String text) {
+        int below = whole(x, text);
+        return x.over(x.value(1, 1), below);
+    }
+
     static String nines(int count) {
         return "9".repeat(count);
+    }
+
+    static String zeros(int count) {
+        return "0".repeat(count);
+    }
+
+    /** 10^24 and n. */
+    static String aboutTen24(long n) {
+        return TEN_24.add(BigInteger.valueOf(n)).toString();
+    }
+
+    /** (10^24 + m) * (10^24 + n). */
+    static String productAboutTen24(long m, long n) {
+        return new BigInteger(aboutTen24(m)).multiply(new BigInteger(aboutTen24(n))).toString();
     }
 
     /** An object with the values 0/1, 1/1, .. (count - 1)/1. */
@@ -102,5 +159,13 @@ final class Check {
             x.value(i, 1);
         }
         return x;
+    }
+
+    /** Makes 1/1 until there are 'count' values; there are fewer. */
+    static void fill(KiloFractions x, int count) {
+        int last = x.value(1, 1);
+        for (int i = 0; i < MOST_VALUES && last < count - 1; i++) {
+            last = x.value(1, 1);
+        }
     }
 }
